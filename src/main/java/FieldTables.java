@@ -135,6 +135,9 @@ public final class FieldTables {
             return FULL;
         }
         if (i <= border) {
+            // Only the place behind the border was nil, and only its key may have to come.
+            int last = whole(table, border);
+            give(table, WHOLE, border + 1L, store.kinds[last], store.numbers[last]);
             moveUp(table, i, border);
         }
         give(table, WHOLE, i, kind, number);
@@ -286,7 +289,7 @@ public final class FieldTables {
             return;
         }
         border++;
-        while (border < MOST_KEYS && store.kinds[whole(table, border + 1L)] != NIL) {
+        while (border < MOST_KEYS && store.kinds[store.find(table, WHOLE, border + 1L)] != NIL) {
             border++;
         }
         tables.borders[table] = border;
@@ -368,11 +371,9 @@ public final class FieldTables {
         return store.find(table, store.keyKind(field), store.keyNumbers[field]);
     }
 
-    /** Moves the values of the fields i to border, of which there is at least one, one place up. */
+    /** Moves the values of the fields from i on, but for the border's, one place up. */
     private void moveUp(int table, int i, int border) {
         int upper = whole(table, border);
-        // Only this place was nil, and only its key may have to come.
-        give(table, WHOLE, border + 1L, store.kinds[upper], store.numbers[upper]);
         for (int place = border - 1; place >= i; place--) {
             int lower = whole(table, place);
             store.copyValue(upper, lower);

@@ -4,8 +4,10 @@ public final class PromisesTest {
     private static final int NO = FieldTables.NO;
     private static final int FULL = FieldTables.FULL;
     private static final int WHOLE = 3;
-    private static final int[] NO_TABLES = {Integer.MIN_VALUE, -1, 0, 2, 30001, Integer.MAX_VALUE};
-    private static final int[] NO_KINDS = {Integer.MIN_VALUE, -1, 8, 11, 256, Integer.MAX_VALUE};
+    private static final int[] NO_TABLES = {
+        Integer.MIN_VALUE, -1, 0, 2, 30001, (1 << 29) + 1, Integer.MIN_VALUE + 1, Integer.MAX_VALUE};
+    private static final int[] NO_KINDS = {
+        Integer.MIN_VALUE, -1, 8, 11, 13, 256, 261, Integer.MAX_VALUE};
 
     public static void main(String[] args) {
         promise1NewObject();
@@ -519,6 +521,16 @@ public final class PromisesTest {
         Due.is("insert: full, moved", x.numberAt(1, 3, 11), 10);
         x.clear(1, 1, 1, 1);
         Due.is("insert: full, at 1 with border 0", x.insert(1, 1, 3, 6), 20000);
+        x.clear(1, 20000, 1, 1);
+        Due.is("insert: full, the last place has a key", x.insert(1, 1, 3, 5), 20000);
+        FieldTables y = twoTables();
+        y.fill(1, 1, 20000, 1);
+        y.fill(2, 1, 19998, 1);
+        y.put(2, 3, 20000, 3, 7);
+        y.put(2, 4, 1, 3, 7);
+        Due.is("insert: full, only the place behind that has a key", y.insert(2, 1, 3, 5), FULL);
+        Due.is("insert: full, behind, likewise", y.insert(2, 19999, 3, 5), FULL);
+        Due.is("insert: full, border", y.border(2), 19998);
     }
 
     private static void promise15Remove() {
@@ -593,6 +605,9 @@ public final class PromisesTest {
         x.put(2, 5, 1, 0, 0);
         Due.is("same: nil fields do not count", x.same(1, 2), 1);
         Due.is("same: the other way", x.same(2, 1), 1);
+        x.put(2, 4, 1, 3, 9);
+        Due.is("same: other number of the later key", x.same(1, 2), 0);
+        x.put(2, 4, 1, 3, 2);
         x.put(2, 3, 1, 3, 9);
         Due.is("same: other number", x.same(1, 2), 0);
         x.put(2, 3, 1, 2, 1);
@@ -669,6 +684,8 @@ public final class PromisesTest {
         Due.is("empty: new table's field", x.kindAt(1, 3, 1), 0);
         Due.is("empty: new table's next", x.next(1, 0, 0), 0);
         Due.is("empty: keys come again", x.put(1, 3, 1, 3, 1), 1);
+        Due.is("empty: fields count again", x.fields(1), 1);
+        Due.is("empty: border counts again", x.border(1), 1);
         order(x, "empty: order", 1, 3, 1);
         x = fullTables();
         Due.is("empty: full", x.empty(), 40000);
