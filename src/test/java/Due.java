@@ -1,3 +1,9 @@
+import java.lang.reflect.InvocationTargetException;
+import java.lang.reflect.Method;
+import java.lang.reflect.Modifier;
+import java.util.Map;
+import java.util.TreeMap;
+
 /** Counts and prints the answers that are not the ones that are due. */
 final class Due {
     private static int wrong = 0;
@@ -17,6 +23,21 @@ final class Due {
             wrong++;
             System.out.println(what + ": does not hold");
         }
+    }
+
+    /** Runs every test of a class, those methods without parameters, so that none can be forgotten. */
+    static void runAll(Class<?> tests) throws IllegalAccessException, InvocationTargetException {
+        Map<String, Method> byName = new TreeMap<>();
+        for (Method method : tests.getDeclaredMethods()) {
+            if (Modifier.isStatic(method.getModifiers()) && method.getParameterCount() == 0 && !method.isSynthetic()) {
+                byName.put(method.getName(), method);
+            }
+        }
+        for (Method test : byName.values()) {
+            test.setAccessible(true);
+            test.invoke(null);
+        }
+        System.out.println(byName.size() + " tests");
     }
 
     static void end() {
