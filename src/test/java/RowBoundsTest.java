@@ -272,7 +272,8 @@ public final class RowBoundsTest {
     private static void promise14InsertBadKind() {
         Refused some = Refused.on("insert", Made::some);
         for (int kind : NO_KINDS) {
-            some.bad("kind " + kind, x -> x.insert(1, 1, kind, 1)).bad("behind, kind " + kind, x -> x.insert(1, 6, kind, 1));
+            some.bad("kind " + kind, x -> x.insert(1, 1, kind, 1))
+                    .bad("behind, kind " + kind, x -> x.insert(1, 6, kind, 1));
         }
         for (int kind = 1; kind <= 7; kind++) {
             FieldTables x = Made.some();
@@ -586,6 +587,19 @@ public final class RowBoundsTest {
         x.make();
         String difference = Seen.difference(Seen.of(x), Seen.of(Made.tables(3)));
         Due.holds("empty: tables are new (" + difference + ")", difference.isEmpty());
+    }
+
+    /** "as if there had been none": fewer keys than before have none of the old ones behind them. */
+    private static void promise19EmptyThenFewerKeys() {
+        FieldTables x = Made.full();
+        x.empty();
+        FieldTables y = Made.none();
+        Due.is("empty: two tables again", x.make() + x.make(), y.make() + y.make());
+        for (int key = 1; key <= 5; key++) {
+            Due.is("empty: key comes again", x.put(1 + key % 2, 3, key, 3, key), y.put(1 + key % 2, 3, key, 3, key));
+        }
+        String difference = Seen.difference(Seen.of(x), Seen.of(y));
+        Due.holds("empty: few keys are as on a new object (" + difference + ")", difference.isEmpty());
     }
 
     /** "All .. keys go": there is room for 40000 again, and no more. */
